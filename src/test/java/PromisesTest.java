@@ -117,6 +117,24 @@ public final class PromisesTest {
         due.same("nothing to undo", x.undo(), -1);
         due.same("nothing to restore", x.restore(), -1);
         due.same("only the first bytes", x.federation(0), 0);
+        promise3Anew();
+    }
+
+    private static void promise3Anew() {
+        UnreadyLead x = Due.of("person 0 0;person 0 0;task 5;");
+        Due.work(x, "come 0;again 30 [hour;];feint 0;boot 0;come 0;");
+        Due.book(x, "0 50;1 50;");
+        x.bag(0, 0, 0);
+        x.bag(7, 0, 0);
+        due.same("a day later", x.told(2) * 10 + x.person(0, 5), 11);
+        due.same("no hour fits", x.fits(), 0);
+        Due.federation(x, "person 0 0;person 0 0;task 5;");
+        due.same("day 0", x.told(2) * 100 + x.told(3), 0);
+        due.same("nobody has led, has boots on, feigns", x.person(0, 5) + x.person(0, 3) + x.told(8), 0);
+        due.same("no line", x.fits(), 0xffffff);
+        due.same("nobody is in a line", x.look(0), 0);
+        due.same("no bag", x.kind(0) + x.kind(7), -2);
+        due.same("no task is begun", x.fresh(), 1);
     }
 
     private static void fault(int answer, int place, int want, int wantPlace, String text) {
@@ -139,6 +157,9 @@ public final class PromisesTest {
         federationFault("person  ", -9, 8);
         federationFault("person 1;", -9, 8);
         federationFault("person 11;", -8, 7);
+        federationFault("person 10 1;", -8, 7);
+        federationFault("xerson 1 1;", -9, 0);
+        federationFault("taskz 1;", -9, 0);
         federationFault("person 1 10;", -8, 9);
         federationFault("person a 1;", -9, 7);
         federationFault("person 1 1", -9, 10);
@@ -221,6 +242,8 @@ public final class PromisesTest {
         lawFault("((((((leasts", -9, 6);
         lawFault("least[1,least[1,least[1,least[1,least[1,most[1,2]]]]]]", 1, -1);
         lawFault("least[1,least[1,least[1,least[1,least[1,most[1,(2)]]]]]]", -7, 47);
+        lawFault("least[".repeat(6) + "1" + ",2]".repeat(6), 1, -1);
+        lawFault("least[".repeat(6) + "(", -7, 36);
         lawFault("(1)+(1)+(1)+(1)+(1)+(1)+(1)+least[1,1]", 1, -1);
         lawFault("((((((1)))))) + (1)", 1, -1);
         lawFault("0999 *1%  2 / ( person )", 1, -1);
@@ -293,6 +316,7 @@ public final class PromisesTest {
         due.same("refused to sit", x.told(10), 2);
         UnreadyLead y = Due.of("person 0 0;task 5;task 5;");
         due.same("all lead", Due.work(y, "come 0;come 1;"), 1);
+        due.same("task 0 is led", y.told(5) * 10 + y.told(4), 11);
         due.same("refused, for all lead", y.told(10), 1);
         UnreadyLead z = Due.of("task 5;");
         due.same("nobody is there", Due.work(z, "come 0;hour;"), 1);
@@ -465,6 +489,11 @@ public final class PromisesTest {
         due.same("as at first", x.told(4) + x.told(3) + x.told(11) + x.told(8) + x.person(2, 3) + x.task(0, 1), 0);
         due.same("packed at first", x.told(7), 4);
         due.same("no more", x.undo(), -1);
+        Due.work(x, "again 47 [hour;];");
+        Due.work(x, "hour;");
+        due.same("day 2", x.told(2), 2);
+        x.undo();
+        due.same("day 1 again", x.told(2) * 100 + x.told(3), 123);
     }
 
     /** All that work changes. */
@@ -542,6 +571,7 @@ public final class PromisesTest {
         due.refuses("task(-1, 0)", ELEMENT, () -> x.task(-1, 0));
         due.refuses("task(0, 3)", ARGUMENT, () -> x.task(0, 3));
         due.refuses("task(0, -1)", ARGUMENT, () -> x.task(0, -1));
+        due.same("refused", x.status(0) * 10 + x.status(1), 22);
     }
 
     private static void promise12() {
@@ -632,6 +662,17 @@ public final class PromisesTest {
         Due.law(y, "(day * 24 + hour) / 100 * 50 * (1 - person) + 10 * person");
         due.same("not behind 100", y.waits(1), -1);
         due.refuses("waits(2)", ELEMENT, () -> y.waits(2));
+        // packed and feigning as now: readiness 49 against 0, 3, .. 27; then 9, alike behind 3 hours
+        UnreadyLead z = Due.of("person 0 0;person 0 1;pack 0;");
+        Due.work(z, "feint 0;");
+        due.same("packed", z.waits(0), -1);
+        Due.work(z, "pack 0;");
+        due.same("feigning", z.waits(0), 3);
+        // who has led once is held to be ready
+        UnreadyLead w = Due.of("person 0 0;person 5 0;task 5;");
+        Due.law(w, "ready + led * 9");
+        Due.work(w, "come 0;hour;");
+        due.same("who has led", w.waits(0) * 10 + w.waits(1), -10);
     }
 
     private static void promise18() {
@@ -707,6 +748,11 @@ public final class PromisesTest {
         UnreadyLead z = Due.of("task 5;");
         due.same("nobody is there", z.plan(1), -1);
         due.same("gives nobody", z.gives(0, 1), -1);
+        // who leads is not given another one, however slow the others are
+        UnreadyLead v = Due.of("person 0 0;person 0 0;task 9;task 9;");
+        Due.law(v, "99");
+        Due.work(v, "come 0;");
+        due.same("whom", v.gives(1, 3), 1);
         // half done: what is left counts
         UnreadyLead w = Due.of("person 0 0;task 100;");
         Due.work(w, "come 0;hour;hour;hour;sit 0;");
@@ -774,6 +820,12 @@ public final class PromisesTest {
         // readiness 99 is one more level
         Due.law(z, "90 + ready");
         due.same("up to 99", z.look(1), 3);
+        // readiness 99 at hour 0 and at no other, of two persons
+        UnreadyLead w = Due.of("person 0 0;person 0 0;");
+        Due.law(w, "99 - hour * (1 + person) / (1 + person)");
+        due.same("each hour another one", w.look(1), 1);
+        Due.law(w, "99 - hour / 23");
+        due.same("23 alike from hour 0 on", w.look(1), 23);
     }
 
     private static void numbers() {
@@ -914,6 +966,7 @@ public final class PromisesTest {
         UnreadyLead x = Due.of("person 0 0;person 0 0;task 5;task 100;task 9;");
         Due.work(x, "come 0;come 1;hour;");
         due.same("left(7)", x.left(7), 99);
+        due.same("left of the first", Due.of("task 8;task 9;").left(1), 8);
         due.same("left(1)", x.left(1), 0);
         due.same("left(2)", x.left(2), 90);
         due.same("left(5)", x.left(5), 9);
@@ -990,6 +1043,9 @@ public final class PromisesTest {
         UnreadyLead y = Due.of("person 1 1;person 2 2;");
         due.same("without tasks: boots", y.decade(3, 96, 16, 3), 4);
         due.same("without tasks: done", y.decade(3, 96, 16, 0), 0);
+        // without tasks a person is drawn first: seed 3 gives 17747 (person 1), 7107 (3 of 16), then 10365 (13 of 16)
+        due.same("without tasks: by hand", y.decade(3, 1, 4, 3) * 10 + y.decade(3, 1, 3, 3), 10);
+        due.same("one hour", x.decade(7, 1, 0, 0), 10);
         UnreadyLead z = Due.of("task 9;");
         due.same("without persons", z.decade(3, 96, 16, 1) + z.decade(3, 96, 16, 3), 0);
     }
@@ -1045,6 +1101,11 @@ public final class PromisesTest {
             due.same("by how many " + p + " leads", x.span(seed, 20, 2, 9, 2, p), leading[p]);
         }
         due.same("of one", x.span(5, 1, 96, 0, 0, 0), x.decade(5, 96, 0, 0));
+        due.same("of one hour", x.span(5, 1, 1, 0, 1, 0), x.decade(5, 1, 0, 0));
+        UnreadyLead y = Due.of("person 0 0;task 200;");
+        Due.work(y, "come 0;hour;");
+        due.same("done in it", y.span(9, 3, 2, 0, 0, 0) * 100 + y.span(9, 3, 2, 0, 1, 0), 2020);
+        due.same("nothing done in it", Due.of("person 0 0;").span(9, 3, 2, 0, 1, 0), 0);
         due.same("nothing stays changed", x.told(3) + x.task(0, 1), 0);
         int[][] bad = {{0, 1, 0, 0, 0}, {21, 1, 0, 0, 0}, {1, 0, 0, 0, 0}, {1, 97, 0, 0, 0}, {1, 1, -1, 0, 0}, {1, 1, 17, 0, 0},
             {1, 1, 0, -1, 0}, {1, 1, 0, 3, 0}, {1, 1, 0, 0, 4}, {1, 1, 0, 1, -1}, {1, 1, 0, 2, 4}};
@@ -1072,8 +1133,9 @@ public final class PromisesTest {
         }
         due.same("a map of 24", x.bag(0, 1, 24), 1);
         due.same("its last place", x.mark(0, 23, 5), 0);
+        due.same("its first place", x.mark(0, 0, 5), 0);
         due.same("a map once more", x.bag(0, 1, 24), 1);
-        due.same("0 at each at first", x.read(0, 23), 0);
+        due.same("0 at each at first", x.read(0, 23) + x.read(0, 0), 0);
         due.same("a map of none", x.bag(0, 1, 0), 1);
         due.refuses("which has no place", PLACE, () -> x.read(0, 0));
         due.same("any size", x.bag(0, 0, Integer.MIN_VALUE), 1);
@@ -1268,15 +1330,18 @@ public final class PromisesTest {
             x.undo();
         }
         Due.work(x, "feint 0;");
-        due.same("works then", x.count(2), 12);
+        Due.work(x, "feint 0;");
+        due.same("works then", x.count(2), 13);
         x.image();
-        for (int i = 0; i < 12; i++) {
+        for (int i = 0; i < 13; i++) {
             x.undo();
         }
         due.same("none is left", x.undo(), -1);
         due.same("restore", x.restore(), 1);
-        due.same("works of the second", x.count(2), 12);
-        due.same("undone", x.undo(), 11);
+        due.same("works of the second", x.count(2), 13);
+        due.same("undone", x.undo(), 12);
+        due.same("feigns", x.told(8) * 100 + x.told(3), 111);
+        due.same("undone, too", x.undo(), 11);
         due.same("feigns no more", x.told(8) * 100 + x.told(3), 11);
         due.same("restore the first", x.restore(), 0);
         due.same("works of the first", x.count(2), 16);

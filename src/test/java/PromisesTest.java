@@ -28,6 +28,7 @@ public final class PromisesTest {
         decades();
         bags();
         imagesAndCounts();
+        fullHouse();
         due.close("PromisesTest");
     }
 
@@ -408,6 +409,8 @@ public final class PromisesTest {
         UnreadyLead x = Due.of("");
         due.same("no person is told", Due.work(x, "boot 0;"), -8);
         due.same("no task is told", Due.work(x, "come 0;"), -8);
+        due.same("open ones at a fault", Due.work(x, "again 2 [again 2 [foo"), -9);
+        due.same("are not open any more", Due.work(x, "again 2 [hour;];"), 2);
     }
 
     private static void promise5Full() {
@@ -1286,6 +1289,42 @@ public final class PromisesTest {
         for (int i = 0; i < 5; i++) {
             due.same("as they were, back " + i, y.read(0, i), back[i]);
         }
+    }
+
+    /** As many persons and tasks as there may be, then fewer: nothing of the others is left. */
+    private static void fullHouse() {
+        UnreadyLead x = Due.of("person 9 0;".repeat(8) + "task 7;".repeat(6) + "pack 0;pack 7;");
+        due.same("of readiness 27, six, and 67, two", x.readiest(0) * 100 + x.readiest(1), 67);
+        due.same("alike", x.alike(7) * 1000 + x.alike(1), 1124);
+        due.same("open", x.open(), 63);
+        due.same("left", x.left(63), 42);
+        due.same("fresh", x.fresh(), 63);
+        due.same("the last", x.next(7), 7);
+        due.same("rank", x.rank(7), 7);
+        due.same("quickest", x.quickest(0), 1);
+        due.same("plan", x.plan(63), 6);
+        due.same("gives", x.gives(5, 63), 6);
+        due.same("soup", x.soup(7, 255, 8 * 27 + 13), 33);
+        due.same("look", x.look(1), 24);
+        due.same("hours", x.hours(1), 0xffffff);
+        due.same("comings", Due.work(x, "come 0;come 1;come 2;come 3;come 4;come 5;hour;"), 7);
+        due.same("done", x.told(6) * 1000 + x.task(5, 1), 63007);
+        due.same("book", Due.book(x, "7 67;0 67;1 27;2 27;3 27;4 27;5 27;6 27;"), 8);
+        due.same("fits", x.fits(), 0xffffff);
+        due.same("decade", x.decade(1, 9, 16, 0), 0);
+        due.same("fewer", Due.federation(x, "person 1 0;task 3;"), 1);
+        due.same("open then", x.open() * 10 + x.fresh(), 11);
+        due.same("left then", x.left(1), 3);
+        due.same("alike then", x.alike(0), 0);
+        due.same("readiest then", x.readiest(1), 3);
+        due.same("none is done", x.told(6), 0);
+        due.same("next then", x.next(1), -1);
+        due.same("soup then", x.soup(0, 1, 2), 2);
+        due.refuses("left(2) then", ARGUMENT, () -> x.left(2));
+        due.refuses("soup by 2 then", ARGUMENT, () -> x.soup(0, 2, 1));
+        due.refuses("person 1 then", ELEMENT, () -> x.person(1, 0));
+        due.refuses("task 1 then", ELEMENT, () -> x.task(1, 0));
+        due.same("a work of such a one", Due.work(x, "boot 1;"), -8);
     }
 
     private static void imagesAndCounts() {

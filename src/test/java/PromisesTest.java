@@ -1304,6 +1304,7 @@ public final class PromisesTest {
         due.same("quickest", x.quickest(0), 1);
         due.same("plan", x.plan(63), 6);
         due.same("gives", x.gives(5, 63), 6);
+        due.same("plans of fewer tasks behind it", x.plan(15) * 100 + x.plan(7) * 10 + x.plan(48), 432);
         due.same("soup", x.soup(7, 255, 8 * 27 + 13), 33);
         due.same("look", x.look(1), 24);
         due.same("hours", x.hours(1), 0xffffff);

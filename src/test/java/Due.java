@@ -8,13 +8,40 @@ final class Due {
 
     private int asked = 0;
     private int wrong = 0;
+    private String about = "";
+
+    /** What is asked from here on is about these words of a promise (0: of the terms), which must stand there. */
+    void about(int promise, String words) {
+        asked++;
+        about = (promise == 0 ? "terms" : "promise " + promise) + ", \"" + words + "\": ";
+        if (!Doc.says(promise, words)) {
+            fails("the document does not say so");
+        }
+    }
+
+    private void fails(String what) {
+        wrong++;
+        System.out.println(about + what);
+    }
 
     void same(String call, long got, long want) {
         asked++;
         if (got != want) {
-            wrong++;
-            System.out.println(call + " answered " + got + ", due is " + want);
+            fails(call + " answered " + got + ", due is " + want);
         }
+    }
+
+    void same(String call, Object got, Object want) {
+        asked++;
+        if (!got.equals(want)) {
+            fails(call + " answered " + got + ", due is " + want);
+        }
+    }
+
+    /** A text's answer, and the place of its fault, -1 without. */
+    void reads(String text, UnreadyLead x, int answer, int want, int place) {
+        same("\"" + text + "\"", answer, want);
+        same("fault() behind \"" + text + "\"", x.fault(), place);
     }
 
     void refuses(String call, Class<? extends RuntimeException> want, Call run) {
@@ -28,8 +55,7 @@ final class Due {
             }
             got = e.toString();
         }
-        wrong++;
-        System.out.println(call + " answered " + got + ", due is " + want.getName());
+        fails(call + " answered " + got + ", due is " + want.getName());
     }
 
     /** Ends the program: with 1 if anything was wrong. */

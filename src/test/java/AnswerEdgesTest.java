@@ -10,8 +10,10 @@ public final class AnswerEdgesTest {
         nowAndAtOtherHours();
         caughtAndNext();
         waits();
+        allElseAsNow();
         ends();
         plans();
+        planByAllWays();
         ahead();
         looks();
         waiters();
@@ -170,6 +172,37 @@ public final class AnswerEdgesTest {
         due.same("leads for 99 hours more", z.waits(0), 99);
     }
 
+    private static void allElseAsNow() {
+        due.about(0, "nothing else being done");
+        // packed: 40 against 0, 3, .. 27; feigning: 9, alike behind 3 hours; boots: 20, less from 7 hours on
+        UnreadyLead x = Due.of("person 0 0;person 0 1;pack 0;");
+        due.same("packed", x.waits(0), -1);
+        Due.work(x, "pack 0;feint 0;");
+        due.same("feigning", x.waits(0), 3);
+        Due.work(x, "feint 0;boot 0;");
+        due.same("with a boot", x.waits(0), 7);
+        Due.work(x, "bare 0;");
+        due.same("with nothing", x.waits(0), 0);
+        UnreadyLead y = Due.of("person 0 0;person 5 0;task 5;task 50;");
+        Due.law(y, "ready + led * 9");
+        Due.work(y, "come 0;hour;");
+        due.same("who has led", y.waits(0) * 10 + y.waits(1), -10);
+        // what is packed, feigned and led counts for paces, too: 5, 9, 9 and 1
+        UnreadyLead z = Due.of("person 0 0;task 100;task 5;");
+        Due.law(z, "packed * 50 + feint * 10 + boots * 10 + led * 90");
+        Due.work(z, "come 0;");
+        due.same("by pace 10", z.ends(0) * 100 + z.ahead(1, 1), 1010);
+        Due.work(z, "pack 0;");
+        due.same("by pace 5", z.ends(0) * 100 + z.ahead(1, 1), 2005);
+        Due.work(z, "pack 0;feint 0;");
+        due.same("by pace 9", z.ends(0) * 100 + z.ahead(1, 1), 1209);
+        Due.work(z, "feint 0;boot 0;");
+        due.same("by pace 9, too", z.busy(0) * 100 + z.ahead(1, 1), 1209);
+        Due.work(z, "bare 0;sit 0;come 1;hour;come 0;");
+        due.same("by pace 1", z.ends(0) * 100 + z.ahead(1, 1), 10006);
+        due.same("by pace 1, drawn", z.decade(1, 3, 0, 0), 3);
+    }
+
     private static void ends() {
         due.about(0, "ENDS of a TASK: the number of HOURS (0 to 500) behind which it is DONE (0: it is), nothing else being done; NONE (so, too, if it is not DONE, and nobody leads it)");
         UnreadyLead x = Due.of("person 0 0;person 0 0;task 200;task 1;task 10;");
@@ -253,6 +286,52 @@ public final class AnswerEdgesTest {
         due.same("nobody", Due.of("task 9;").gives(0, 1), -1);
     }
 
+    private static void planByAllWays() {
+        due.about(0, "all ways to give each one PERSON who leads nothing, none two: each takes as many HOURS as what is left of it");
+        UnreadyLead x = Due.of("person 0 0;person 1 0;person 2 0;person 3 0;task 200;task 90;task 35;task 61;");
+        // paces 10, 7, 4, 1
+        Due.law(x, "ready * 30");
+        for (int told = 0; told < 16; told++) {
+            due.same("plan of " + told, x.plan(told), fewest(told, 0, new int[] {10, 7, 4, 1}, new int[] {200, 90, 35, 61}));
+        }
+        Due.work(x, "come 1;hour;sit 0;");
+        for (int told = 0; told < 16; told++) {
+            due.same("plan of " + told + " behind an hour", x.plan(told), fewest(told, 0, new int[] {10, 7, 4, 1}, new int[] {200, 80, 35, 61}));
+        }
+        due.about(0, "PERSON who leads nothing");
+        UnreadyLead z = Due.of("person 0 0;person 0 0;person 0 0;task 99;task 99;task 99;");
+        Due.law(z, "99 - led");
+        Due.work(z, "come 0;");
+        due.same("of the others", z.gives(1, 6) * 10 + z.gives(2, 6), 12);
+        Due.work(z, "come 1;");
+        due.same("of the last one", z.gives(2, 4), 2);
+        due.about(0, "that of fewest HOURS together");
+        UnreadyLead y = Due.of("person 0 0;person 5 0;task 10;task 100;");
+        Due.law(y, "ready * 10");
+        // paces 10 and 5: 1 and 20, or 2 and 10
+        due.same("2 and 10", y.plan(3), 12);
+        due.same("whom", y.gives(0, 3) * 10 + y.gives(1, 3), 10);
+    }
+
+    private static int fewest(int told, int task, int[] paces, int[] left) {
+        if (task == left.length) {
+            return 0;
+        }
+        if ((told >> task & 1) == 0) {
+            return fewest(told, task + 1, paces, left);
+        }
+        int least = 100000;
+        for (int p = 0; p < paces.length; p++) {
+            if (paces[p] > 0) {
+                int[] rest = paces.clone();
+                rest[p] = 0;
+                int hours = (left[task] + paces[p] - 1) / paces[p];
+                least = Math.min(least, hours + fewest(told, task + 1, rest, left));
+            }
+        }
+        return least;
+    }
+
     private static void ahead() {
         due.about(21, "In n HOURS (0 to 500), nothing else being done: 0 TASKS that are DONE (bits), 1 how much is done of all TASKS, 2 PERSONS who lead (bits)");
         UnreadyLead x = Due.of("person 0 0;person 0 0;task 200;task 3;task 50;");
@@ -278,6 +357,22 @@ public final class AnswerEdgesTest {
     }
 
     private static void looks() {
+        due.about(0, "FITS by BOOK: HOURS (0 to 23) at which, all else as now, all lines would be right (bits)");
+        UnreadyLead w = Due.of("person 0 1;person 0 0;");
+        Due.law(w, "ready + boots * 20 + day * 30 + led");
+        Due.book(w, "0 3;1 0;");
+        due.same("hours 3, 13 and 23", w.fits(), 1 << 3 | 1 << 13 | 1 << 23);
+        Due.work(w, "boot 1;");
+        due.same("boots as now", w.fits(), 0);
+        Due.work(w, "bare 1;again 24[hour;];");
+        due.same("the day as now", w.fits(), 0);
+        Due.book(w, "0 30;1 30;");
+        due.same("hours 0, 10 and 20 of this day", w.fits(), 1 | 1 << 10 | 1 << 20);
+        due.about(0, "LOOK: the PERSON in no line by whose READINESS, whatever it was");
+        Due.book(w, "1 30;");
+        due.same("who is in no line", w.look(0) * 10 + w.look(1), 3);
+        Due.book(w, "0 33;");
+        due.same("who is in no line, though it tells nothing", w.look(0) * 10 + w.look(1), 13);
         due.about(22, "FITS, as bits of HOURS");
         UnreadyLead x = Due.of("person 0 1;person 0 5;person 7 0;");
         Due.law(x, "ready");
@@ -321,6 +416,11 @@ public final class AnswerEdgesTest {
     }
 
     private static void waiters() {
+        due.about(0, "WAITERS by v, w: each of two begins or waits: both begin: each has w; one begins: it has 0, the other one v; both wait: each has 0 less w");
+        UnreadyLead z = new UnreadyLead();
+        due.same("both begin, 2 by 7", z.waiters(3, 7, 1) * 100 + z.waiters(3, 7, 2), 14);
+        due.same("one begins, 0 and 7", z.waiters(7, 3, 1) * 100 + z.waiters(7, 3, 2), 107);
+        due.same("both wait rests by w of 0", z.waiters(7, 0, 0) * 10 + z.waiters(7, 1, 0), 32);
         due.about(0, "RESTS: neither would have more by the other thing");
         UnreadyLead x = new UnreadyLead();
         // both begin rests by w of v or more, one begins by v of w or more (0 is not less than 0 less w), both wait by w of 0 alone
@@ -349,7 +449,26 @@ public final class AnswerEdgesTest {
         due.same("below of " + n + ", " + k + ", " + q, x.found(n, k, q, 1), below);
     }
 
+    /** By all ways how n comings may go, each with its weight. */
+    private static long weight(int n, int k, int q) {
+        if (n == 0) {
+            return k <= 0 ? 1 : 0;
+        }
+        return q * weight(n - 1, k - 1, q) + (16 - q) * weight(n - 1, k, q);
+    }
+
     private static void found() {
+        due.about(0, "FOUND of n, k, q: of n comings each finds one unready by q of 16, each by itself: how likely k or more do");
+        for (int n = 0; n <= 12; n++) {
+            for (int k = 0; k <= 13; k++) {
+                for (int q = 0; q <= 16; q++) {
+                    long above = weight(n, k, q);
+                    long below = 1L << 4 * n;
+                    long by = Math.max(1, java.math.BigInteger.valueOf(above).gcd(java.math.BigInteger.valueOf(below)).longValue());
+                    fraction(n, k, q, above / by, below / by);
+                }
+            }
+        }
         due.about(25, "FOUND of n (0 to 12), k (0 to 13), q (0 to 16): above (part 0), below (part 1), in least terms");
         fraction(0, 0, 0, 1, 1);
         fraction(0, 0, 16, 1, 1);
@@ -376,6 +495,10 @@ public final class AnswerEdgesTest {
     }
 
     private static void soup() {
+        due.about(0, "SOUP of n among told PERSONS (bits) by READINESS: levelled");
+        UnreadyLead z = Due.of("person 9 0;person 1 0;person 5 0;");
+        due.same("levelled to 9 each, but 3", z.soup(0, 7, 21) * 10000 + z.soup(1, 7, 21) * 100 + z.soup(2, 7, 21), 90309);
+        due.same("among two of them", z.soup(0, 5, 21) * 10000 + z.soup(1, 5, 21) * 100 + z.soup(2, 5, 21), 100010);
         due.about(0, "no more than that each, no more than a bound, the greatest by which no more than n are given (all, if they are no more)");
         UnreadyLead x = Due.of("person 0 0;person 0 0;person 0 0;");
         // readiness 5, 20, 40
@@ -527,6 +650,7 @@ public final class AnswerEdgesTest {
             due.same("comings by seed " + seed, x.decade(seed, 2, 8, 1), d[0] == d[3] ? 1 : 2);
         }
         decadesOfNone();
+        hourByHour();
         due.about(0, "come (if it can be done)");
         UnreadyLead y = Due.of("person 0 0;task 200;");
         due.same("led already", y.decade(1, 9, 0, 1), 1);
@@ -552,6 +676,19 @@ public final class AnswerEdgesTest {
         due.same("leads", z.decade(1, 1, 16, 2), 1);
         due.same("boots, that from ahead, too", z.decade(1, 1, 16, 3), 2);
         due.same("barefoot", z.decade(1, 1, 0, 3), 0);
+    }
+
+    private static void hourByHour() {
+        due.about(0, "A DECADE by a SEED: for so many HOURS");
+        UnreadyLead x = Due.of("person 0 0;task 200;");
+        Due.law(x, "99");
+        for (int hours : new int[] {1, 2, 50, 95, 96}) {
+            due.same(hours + " hours by pace 1", x.decade(3, hours, 8, 0), hours);
+        }
+        // the hours of a decade go by days, too: pace 1 on day 0, pace 10 from then on
+        Due.law(x, "99 - day * 99");
+        due.same("24 hours", x.decade(3, 24, 8, 0), 24);
+        due.same("26 hours", x.decade(3, 26, 8, 0), 44);
     }
 
     private static void decadesOfNone() {

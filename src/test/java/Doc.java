@@ -33,4 +33,11 @@ final class Doc {
     static boolean says(int promise, String words) {
         return part(promise).contains(words);
     }
+
+    /** A part without its heading and without the line of the face that it begins with. */
+    static String sentences(int promise) {
+        String text = part(promise);
+        int from = promise == 0 ? "## Terms ".length() : text.lastIndexOf("`: ") + 3;
+        return text.substring(Math.min(from, text.length()));
+    }
 }

@@ -48,6 +48,7 @@ public final class TextEdgesTest {
     }
 
     private static void federations() {
+        clauses();
         sixHundredBytes();
         sixtyClauses();
         eightPersons();
@@ -64,6 +65,21 @@ public final class TextEdgesTest {
         due.same("the last clause of them", x.task(0, 0), 9);
         due.same("599 bytes", Due.federation(x, " ".repeat(592) + "task 8;"), 0);
         due.same("the only clause of them", x.task(0, 0), 8);
+    }
+
+    private static void clauses() {
+        due.about(0, "CLAUSE: \"person\" R S");
+        federation("person 1 2;", 1, -1);
+        federation("person 1;", -9, 8);
+        federation("person;", -9, 6);
+        federation("person 1 2 3;", -9, 11);
+        due.about(0, "\"task\" N");
+        federation("task 1;", 0, -1);
+        federation("task;", -9, 4);
+        federation("task 1 2;", -9, 7);
+        due.about(0, "\"pack\" P");
+        federation("person 1 2;pack;", -9, 15);
+        federation("person 1 2;pack 0 0;", -9, 18);
     }
 
     private static void sixtyClauses() {
@@ -137,9 +153,13 @@ public final class TextEdgesTest {
         due.same("once", Due.of("person 1 1;pack 0;person 1 1;").told(7), 1);
         due.same("twice", Due.of("person 1 1;pack 0;pack 0;person 1 1;").told(7), 1);
         due.same("three times", Due.of("person 1 1;person 1 1;pack 1;pack 1;pack 1;").told(7), 2);
+        due.same("two of three", Due.of("person 1 1;person 1 1;person 1 1;pack 2;pack 0;pack 2;").told(7), 5);
     }
 
     private static void laws() {
+        sums();
+        products();
+        names();
         lawOf150Bytes();
         nothingMore();
         withoutLaw();
@@ -149,6 +169,64 @@ public final class TextEdgesTest {
         wrapping();
         cuttingAndLeaving();
         leastAndMost();
+    }
+
+    private static void sums() {
+        due.about(0, "E: T { + or - T }");
+        value("7", 7);
+        value("7 + 8", 15);
+        value("50 - 20", 30);
+        value("50 - 20 - 5", 25);
+        value("50 - 20 + 5", 35);
+        value("5 - 20 + 50", 35);
+        value("50 - (20 + 5)", 25);
+        law("7 +", -9, 3);
+        law("7 + + 8", -9, 4);
+        law("7 - - 8", -9, 4);
+        law("7 8", -9, 2);
+    }
+
+    private static void products() {
+        due.about(0, "T: U { * or / or % U }");
+        value("7 * 8", 56);
+        value("2 + 3 * 4", 14);
+        value("3 * 4 + 2", 14);
+        value("(2 + 3) * 4", 20);
+        value("80 / 4 / 2", 10);
+        value("80 / (4 / 2)", 40);
+        value("80 / 4 * 2", 40);
+        value("80 % 30 % 7", 6);
+        value("7 * 8 % 10", 6);
+        value("99 - 80 / 7 % 4 * 5", 84);
+        law("7 *", -9, 3);
+        law("7 * * 8", -9, 4);
+        law("7 / % 8", -9, 4);
+        law("* 7", -9, 0);
+    }
+
+    private static void names() {
+        due.about(0, "\"ready\" (READY), \"boots\" (how many it has on)");
+        UnreadyLead x = Due.of("person 0 0;person 3 4;task 9;task 9;");
+        Due.work(x, "boot 1;boot 1;again 25[hour;];");
+        Due.law(x, "ready * 10 + boots");
+        due.same("ready 7, boots 2", x.person(1, 6), 72);
+        due.same("ready 0, boots 0", x.person(0, 6), 0);
+        due.about(0, "\"hour\" (the HOUR), \"day\" (the DAY), \"led\" (how often it led a TASK to its end), \"person\" (its number)");
+        Due.law(x, "hour * 10 + day");
+        due.same("hour 1, day 1", x.person(1, 6), 11);
+        Due.law(x, "led * 10 + person");
+        due.same("person 0, who has not led", x.person(0, 6), 0);
+        due.same("person 1, who has not led", x.person(1, 6), 1);
+        Due.work(x, "come 0;hour;");
+        due.same("person 0, who has led once", x.person(0, 6), 10);
+        Due.work(x, "come 1;sit 1;");
+        due.same("person 1, who sat down", x.person(1, 6), 1);
+        for (String name : new String[] {"ready", "boots", "packed", "feint", "hour", "day", "led", "person"}) {
+            law(name, 1, -1);
+            law(name + "s", -9, 0);
+            law(name.substring(1), -9, 0);
+            law(name.substring(0, name.length() - 1), -9, 0);
+        }
     }
 
     private static void lawOf150Bytes() {
@@ -281,9 +359,11 @@ public final class TextEdgesTest {
 
     private static void worksAndBooks() {
         workOf150Bytes();
+        eachStep();
         rounds();
         toldPersonsAndTasks();
         bookOf60Bytes();
+        eachLine();
         nobodyTwice();
         toldInBook();
         readinessInBook();
@@ -295,6 +375,22 @@ public final class TextEdgesTest {
         work("hour;".repeat(30), 30, -1);
         work("feint 0;".repeat(18) + " hour;", 19, -1);
         work("", 0, -1);
+    }
+
+    private static void eachStep() {
+        due.about(0, "\"boot\" P, \"bare\" P, \"pack\" P, \"feint\" P, \"come\" T, \"sit\" P, \"hour\"");
+        work("boot 0;bare 0;pack 0;feint 0;come 0;sit 1;hour;", 7, -1);
+        for (String word : new String[] {"boot", "bare", "pack", "feint", "come", "sit", "hour"}) {
+            work(word + "s 0;", -9, 0);
+            work(word.substring(1) + " 0;", -9, 0);
+            work(word + " 0 0;", -9, word.equals("hour") ? 5 : word.length() + 3);
+            work(word + " 0", -9, word.equals("hour") ? 5 : word.length() + 2);
+        }
+        work("hour 0;", -9, 5);
+        due.about(0, "{ STEP \";\" }");
+        work("", 0, -1);
+        work("hour;hour", -9, 9);
+        work("hour,", -9, 4);
     }
 
     private static void rounds() {
@@ -336,6 +432,15 @@ public final class TextEdgesTest {
         book(" ".repeat(56) + "1 5;", 1, -1);
         book("0 5;" + " ".repeat(51) + "1 99;", 2, -1);
         book("", 0, -1);
+    }
+
+    private static void eachLine() {
+        due.about(0, "{ P L \";\" }");
+        book("0 1;1 2;", 2, -1);
+        book("0;", -9, 1);
+        book("0 1 2;", -9, 4);
+        book("0 1;1 2", -9, 7);
+        book("0,1;", -9, 1);
     }
 
     private static void nobodyTwice() {
@@ -401,6 +506,17 @@ public final class TextEdgesTest {
         book("0 4294967296;", -8, 2);
         book("01;", -9, 2);
         book("000000000000000000 000000000000000000099;", 1, -1);
+        // the signs beside the digits are none
+        federation("task 1/;", -9, 6);
+        federation("task 1:;", -9, 6);
+        federation("task /1;", -9, 5);
+        federation("task :1;", -9, 5);
+        book("0 1:;", -9, 3);
+        book("0:1;", -9, 1);
+        work("boot 1:;", -9, 6);
+        law("1:", -9, 1);
+        law(":1", -9, 0);
+        federation("person 0 9;task 109;", 1, -1);
     }
 
     private static void letters() {
@@ -424,6 +540,27 @@ public final class TextEdgesTest {
         work("againx 1[];", -9, 0);
         work("agai 1[];", -9, 0);
         work("boot1;", 1, -1);
+        // each letter counts, the first and the last
+        federation("xerson 1 1;", -9, 0);
+        federation("persox 1 1;", -9, 0);
+        federation("xask 1;", -9, 0);
+        federation("xack 0;", -9, 0);
+        law("xeady", -9, 0);
+        law("xeast[1,2]", -9, 0);
+        law("xost[1,2]", -9, 0);
+        work("xour;", -9, 0);
+        work("xgain 1[];", -9, 0);
+        // the letters' first and last one, and the signs beside them
+        federation("taska 1;", -9, 0);
+        federation("taskz 1;", -9, 0);
+        federation("task` 1;", -9, 4);
+        federation("task{ 1;", -9, 4);
+        federation("zask 1;", -9, 0);
+        law("ready`", -9, 5);
+        law("ready{", -9, 5);
+        law("readyz", -9, 0);
+        work("hourz;", -9, 0);
+        work("hour{;", -9, 4);
     }
 
     private static void blanks() {

@@ -10,6 +10,7 @@ public final class WorkEdgesTest {
         readyByHour();
         paces();
         whoIsCaught();
+        inOrder();
         refusedChangesNothing();
         twoHundredSteps();
         steps();
@@ -100,6 +101,20 @@ public final class WorkEdgesTest {
         UnreadyLead x = Due.of("person 0 0;person 1 0;task 200;task 5;");
         Due.work(x, "come 1;hour;come 0;boot 0;boot 0;hour;");
         return x;
+    }
+
+    private static void inOrder() {
+        due.about(0, "STEPS are done in order");
+        UnreadyLead x = Due.of("person 0 0;person 1 0;task 99;");
+        due.same("boots, then come", Due.work(x, "boot 0;come 0;"), 2);
+        due.same("who leads", x.task(0, 2), 1);
+        x.undo();
+        due.same("come, then boots", Due.work(x, "come 0;boot 0;"), 2);
+        due.same("who leads then", x.task(0, 2), 0);
+        x.undo();
+        due.same("each round in order", Due.work(x, "again 2[boot 0;bare 0;boot 0;];bare 1;boot 1;"), 7);
+        due.same("boots", x.person(0, 3) * 10 + x.person(1, 3), 11);
+        due.same("refused", x.told(10), 1);
     }
 
     private static void refusedChangesNothing() {
@@ -263,10 +278,21 @@ public final class WorkEdgesTest {
     }
 
     private static void hours() {
+        ofEachTask();
         noMoreThanNeeded();
         aheadOfTheHour();
         doneTasks();
         behind23();
+    }
+
+    private static void ofEachTask() {
+        due.about(0, "of each TASK that is led");
+        UnreadyLead x = Due.of("person 0 0;person 1 0;person 2 0;task 99;task 99;task 99;task 99;");
+        Due.law(x, "ready * 10");
+        due.same("an hour without leaders", Due.work(x, "hour;"), 1);
+        due.same("nothing is done", x.left(15), 396);
+        Due.work(x, "come 3;come 0;come 2;hour;");
+        due.same("by paces 10, 9, 8", x.task(3, 1) * 1000 + x.task(0, 1) * 100 + x.task(2, 1) * 10 + x.task(1, 1), 10980);
     }
 
     private static void noMoreThanNeeded() {
@@ -379,22 +405,30 @@ public final class WorkEdgesTest {
         undoneWhole();
     }
 
+    /** Works without refused steps; each changes something that the others do not. */
+    private static final String[] WORKS = {"come 0;hour;", "come 1;boot 1;feint 0;", "again 30[hour;];pack 0;boot 0;boot 0;",
+        "come 2;bare 1;hour;feint 1;boot 1;boot 1;", "sit 1;hour;pack 1;again 60[hour;];"};
+
+    private static UnreadyLead behind(int many) {
+        UnreadyLead x = Due.of("person 0 3;person 4 1;task 15;task 99;task 200;");
+        for (int i = 0; i < many; i++) {
+            Due.work(x, WORKS[i]);
+            due.same("refused of work " + i, x.told(10), 0);
+        }
+        return x;
+    }
+
+    /** Compared with one that never went so far. */
     private static void undoneWhole() {
-        String[] works = {"come 0;hour;", "come 1;boot 1;feint 0;", "again 30[hour;];pack 0;", "sit 0;bare 1;hour;come 1;"};
-        for (int many = 1; many <= 4; many++) {
-            UnreadyLead x = Due.of("person 0 3;person 4 1;task 15;task 99;");
-            UnreadyLead y = Due.of("person 0 3;person 4 1;task 15;task 99;");
-            for (int i = 0; i < many; i++) {
-                Due.work(x, works[i]);
-                if (i < many - 1) {
-                    Due.work(y, works[i]);
-                }
-            }
+        for (int many = 0; many < WORKS.length; many++) {
+            UnreadyLead x = behind(many + 1);
             x.undo();
-            // a work and its undoing leave nothing refused in both
-            Due.work(y, "");
-            y.undo();
-            due.same("all behind undo of work " + many, Probe.of(x), Probe.of(y));
+            due.same("all behind undo of work " + many, Probe.of(x), Probe.of(behind(many)));
+            UnreadyLead y = behind(WORKS.length);
+            for (int i = WORKS.length; i > many; i--) {
+                y.undo();
+            }
+            due.same("all behind undo to work " + many, Probe.of(y), Probe.of(behind(many)));
         }
     }
 
@@ -459,6 +493,13 @@ public final class WorkEdgesTest {
         due.same("the last ones", y.told(4) * 100 + y.told(5), 19233);
         Due.work(y, "again 10[hour;];");
         due.same("done, the first and the last", y.told(6) * 1000 + y.told(5) * 10 + y.told(4), 33000);
+        due.about(9, "0 PERSONS, 1 TASKS, 2 the DAY, 3 the HOUR");
+        due.same("of a full one", y.told(0) * 1000 + y.told(1) * 100 + y.told(2) * 10 + y.told(3), 8610);
+        due.same("of an empty one", Due.of("").told(0) + Due.of("").told(1), 0);
+        due.about(9, "9 lines of the BOOK");
+        due.same("none", y.told(9), 0);
+        Due.book(y, "7 1;0 1;");
+        due.same("two", y.told(9), 2);
         due.about(9, "7 PERSONS who are packed (bits), 8 PERSONS who feign (bits)");
         Due.work(y, "pack 7;feint 7;pack 0;feint 0;");
         due.same("the first and the last", y.told(7) * 1000 + y.told(8), 129129);
@@ -509,7 +550,9 @@ public final class WorkEdgesTest {
         for (int i = 0; i < 16; i++) {
             x.undo();
         }
-        Due.work(x, "again 40[hour;];");
+        for (int i = 0; i < 16; i++) {
+            Due.work(x, "again 3[hour;];");
+        }
         due.same("restore", x.restore(), 0);
         due.same("no room for more", Due.work(x, "hour;"), -20);
         for (int i = 15; i >= 0; i--) {
@@ -524,27 +567,30 @@ public final class WorkEdgesTest {
         due.same("at hour 0", x.told(3), 0);
     }
 
+    /** Compared with one that never went on. */
     private static void imagesOfAll() {
         due.about(46, "All that is as in the latest IMAGE");
-        String[] works = {"come 0;hour;", "come 1;boot 1;feint 0;", "again 30[hour;];pack 0;", "sit 0;bare 1;hour;come 1;"};
-        for (int many = 0; many < 4; many++) {
-            UnreadyLead x = Due.of("person 0 3;person 4 1;task 15;task 99;");
-            UnreadyLead y = Due.of("person 0 3;person 4 1;task 15;task 99;");
-            for (int i = 0; i < many; i++) {
-                Due.work(x, works[i]);
-                Due.work(y, works[i]);
-            }
+        for (int many = 0; many < WORKS.length; many++) {
+            UnreadyLead x = behind(many);
             x.image();
-            y.image();
-            Due.work(x, works[many]);
-            x.undo();
-            Due.work(x, works[3]);
+            Due.work(x, WORKS[many]);
             x.restore();
+            due.same("all behind restore of " + many, Probe.of(x), Probe.of(behind(many)));
+            UnreadyLead y = behind(many);
+            y.image();
+            for (int i = 0; i < many; i++) {
+                y.undo();
+            }
+            for (int i = WORKS.length - 1; i >= 0; i--) {
+                Due.work(y, WORKS[i]);
+            }
+            y.image();
+            y.image();
+            y.undo();
             y.restore();
-            // another text is read by both: the latest one was without a fault
-            Due.law(x, "ready * 9");
-            Due.law(y, "ready * 9");
-            due.same("all behind restore of " + many, Probe.of(x), Probe.of(y));
+            y.restore();
+            y.restore();
+            due.same("all behind three restores to " + many, Probe.of(y), Probe.of(behind(many)));
         }
     }
 }

@@ -714,6 +714,8 @@ public final class TextEdgesTest {
         law("(((((least[1,1]+most[1,1]+(1)+least[(1),1])))))", -7, 36);
         law("(((((least[1,1]+most[1,1]+(1)+least[1,1])))))", 1, -1);
         work("again 1[".repeat(6) + "hour;" + "];".repeat(6), 1, -1);
+        work("again 2[".repeat(6) + "hour;" + "];".repeat(6), 64, -1);
+        work("again 2[".repeat(5) + "again 3[hour;];hour;" + "];".repeat(5), 128, -1);
         work("again 1[".repeat(7) + "];".repeat(7), -7, 48);
         work("again 1[".repeat(6) + "  again", -7, 50);
         work("again 1[".repeat(6) + "again 61", -7, 48);
